@@ -11,6 +11,7 @@ public final class CopiesTest {
         treeOfLikeLists();
         treeJoinsGroups();
         fewLists();
+        apartByAllStars();
         refusals();
         treeRefusals();
         c.end("CopiesTest");
@@ -171,6 +172,22 @@ public final class CopiesTest {
         row(x, 0, Checks.NONE);
         write(x, 2, 2, 2, 1);
         c.due("tree of two lists", x.tree(0, 0), 3);
+        row(x, 0, 1);
+        row(x, 1, Checks.NONE);
+    }
+
+    private static void apartByAllStars() {
+        StarLists x = new StarLists();
+        x.list();
+        x.list();
+        for (int i = 0; i < 8; i++) {
+            x.star(1000 + 2500 * i, 2000, 0, 0);
+            x.line(0, 1000 + 2500 * i, -2000);
+            x.line(1, 1000 + 2500 * i, 1400);
+        }
+        c.due("apart by eight", x.apart(0, 1, 0, 0), 8);
+        c.due("shared by none", x.share(0, 1, 0, 0), 0);
+        c.due("a tree of eight faults", x.tree(0, 0), 8);
         row(x, 0, 1);
         row(x, 1, Checks.NONE);
     }

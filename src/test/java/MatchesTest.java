@@ -309,6 +309,7 @@ public final class MatchesTest {
         c.due("not beyond to", x.dated(0, 0, 0, 110), 3110);
         c.due("not beyond to, off the step", x.dated(0, 0, 0, 119), 3110);
         c.due("nor short of it", x.dated(0, 0, 0, 120), 3120);
+        c.due("the second year", x.dated(0, 0, 110, 400), 3120);
         c.due("one year", x.dated(0, 0, -7, -7), 2993);
         c.due("with shift 50", x.dated(0, 50, 0, 400), 3060);
         c.due("with shift -50", x.dated(0, -50, 0, 400), 3180);
@@ -339,6 +340,8 @@ public final class MatchesTest {
         c.due("slack 800", x.doubt(0, 0, 0, 400, 800), 41);
         c.due("slack 99: less than a line left", x.doubt(0, 0, 0, 400, 99), 7);
         c.due("slack 100: as much as a line left", x.doubt(0, 0, 0, 400, 100), 41);
+        c.due("the least in the first year", x.doubt(0, 0, 120, 400, 0), 1);
+        c.due("the least in the second year", x.doubt(0, 0, 110, 400, 0), 1);
         c.due("to 119", x.doubt(0, 0, 0, 119, 8), 2);
         c.due("with shift 100", x.doubt(0, 100, -100, 0, 8), 1);
         c.due("one year", x.doubt(0, 0, 5, 14, 0), 1);
