@@ -200,9 +200,9 @@ public final class StarLists {
     }
 
     public int row(int i, int year, int shift) {
-        if (i < 0 || !isMoment(year, shift)) return OUTSIDE;
+        if (!isMoment(year, shift)) return OUTSIDE;
         copies.grow(year, shift);
-        return i < copies.rows ? copies.pairs[i] : NONE;
+        return isWithin(i, 0, copies.rows - 1) ? copies.pairs[i] : NONE;
     }
 
     public int count(int what) {

@@ -120,6 +120,8 @@ public final class CopiesTest {
         row(x, 2, 12);
         row(x, 3, Checks.NONE);
         row(x, MAX, Checks.NONE);
+        row(x, -1, Checks.NONE);
+        row(x, MIN, Checks.NONE);
         c.due("a year in which nothing matches", x.tree(1000, 0), 0);
         c.due("its first row", x.row(0, 1000, 0), 1);
         c.due("its second row", x.row(1, 1000, 0), 2);
@@ -167,6 +169,7 @@ public final class CopiesTest {
         StarLists x = fourStars();
         c.due("tree of no lists", x.tree(0, 0), 0);
         row(x, 0, Checks.NONE);
+        row(x, -1, Checks.NONE);
         write(x, 1, 1, 1, 1);
         c.due("tree of one list", x.tree(0, 0), 0);
         row(x, 0, Checks.NONE);
@@ -230,9 +233,11 @@ public final class CopiesTest {
             c.due("tree with shift " + n, x.tree(0, n), Checks.OUTSIDE);
             c.due("row with shift " + n, x.row(0, 0, n), Checks.OUTSIDE);
         }
-        c.due("row -1", x.row(-1, 0, 0), Checks.OUTSIDE);
-        c.due("row " + MIN, x.row(MIN, 0, 0), Checks.OUTSIDE);
-        c.due("OUTSIDE ahead of NONE", x.row(1, 3001, 0), Checks.OUTSIDE);
+        for (int i : new int[] {-1, 1, MIN, MAX}) {
+            row(x, i, Checks.NONE);
+            c.due("row " + i + ": OUTSIDE ahead of NONE, year", x.row(i, 3001, 0), Checks.OUTSIDE);
+            c.due("row " + i + ": OUTSIDE ahead of NONE, shift", x.row(i, 0, -601), Checks.OUTSIDE);
+        }
         c.due("tree at the edges", x.tree(3000, 600), 0);
         c.due("row at the edges", x.row(0, -3000, -600), 1);
     }

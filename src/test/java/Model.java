@@ -298,9 +298,9 @@ final class Model {
     }
 
     int row(int i, int year, int shift) {
-        if (i < 0 || !moment(year, shift)) return OUTSIDE;
+        if (!moment(year, shift)) return OUTSIDE;
         List<int[]> rows = rows(year, shift);
-        return i < rows.size() ? 10 * rows.get(i)[1] + rows.get(i)[2] : NONE;
+        return i >= 0 && i < rows.size() ? 10 * rows.get(i)[1] + rows.get(i)[2] : NONE;
     }
 
     int count(int what) {
