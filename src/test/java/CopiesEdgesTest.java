@@ -37,6 +37,7 @@ public final class CopiesEdgesTest {
         rowUnderTheLimit();
         rowInYearsAndShifts();
         rowRefused();
+        listBesideItself();
         mendedLists();
         c.end("CopiesEdgesTest", 19, 20, 21, 22, 23);
     }
@@ -416,6 +417,27 @@ public final class CopiesEdgesTest {
         }
         c.promise(23, "what is refused changes nothing");
         c.unchanged(x, before);
+    }
+
+    /** Of share and apart the document names UNKNOWN and OUTSIDE alone as refusals, so this is none. */
+    private static void listBesideItself() {
+        StarLists x = lists("12301230", "00000000", "");
+        int[] faults = {6, 0, 0};
+        for (int list = 0; list < 3; list++) {
+            int asked = list;
+            c.promise(20, "one FAULT, not 0, in both: a LIST beside itself");
+            c.due("share of LIST " + list, x.share(list, list, 0, 0), faults[list]);
+            c.refused("share, year", -3000, 3000, OUTSIDE, n -> x.share(asked, asked, n, 0));
+            c.refused("share, shift", -600, 600, OUTSIDE, n -> x.share(asked, asked, 0, n));
+            c.promise(21, "each STAR whose FAULTS in both are unlike: a LIST beside itself");
+            c.due("apart of LIST " + list, x.apart(list, list, 0, 0), 0);
+            c.refused("apart, year", -3000, 3000, OUTSIDE, n -> x.apart(asked, asked, n, 0));
+            c.refused("apart, shift", -600, 600, OUTSIDE, n -> x.apart(asked, asked, 0, n));
+        }
+        c.promise(20, "UNKNOWN: a LIST beside itself");
+        c.refused("share", 0, 2, UNKNOWN, n -> x.share(n, n, 0, 0));
+        c.promise(21, "UNKNOWN: a LIST beside itself");
+        c.refused("apart", 0, 2, UNKNOWN, n -> x.apart(n, n, 0, 0));
     }
 
     /** A LINE that was asked about before is mended: nothing of the earlier answer may be left. */
